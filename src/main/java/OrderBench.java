@@ -799,7 +799,7 @@ public final class OrderBench {
             return last > 1 && lengthOf(last - 2) < lengthOf(last) ? last - 2 : last - 1;
         }
 
-        /** Who calls takes one off the height. */
+        /** Who calls takes one off the height, so that the end of its loop is seen there. */
         private void joinWithNext(Row row, int run) {
             int middle = borders[run + 1];
             int to = borders[run + 2];

@@ -132,6 +132,7 @@ public final class SortTest {
         }
     }
 
+    // Lays by single calls what fill() cannot make; the sorts would be the same within 512 calls.
     private static void sortKeys(String what, long[] keys, int tagsModulo) {
         OrderBench bench = new OrderBench();
         Model model = new Model();
