@@ -19,11 +19,11 @@ public final class FaceTest {
     // What all 512 calls of one run may make together, were each of them to make an object.
     private static final int ROOM_OF_ONE = 7_300_000 / 512;
 
-    public static void main(String[] args) throws ReflectiveOperationException {
-        theFace();
-        nothingElseIsSeen();
-        staticsAreFinal();
-        oneObjectIsSmall();
+    public static void main(String[] args) {
+        CHECK.test("the public face", FaceTest::theFace);
+        CHECK.test("rule 1, nothing else is seen", FaceTest::nothingElseIsSeen);
+        CHECK.test("rule 5, static fields are final", FaceTest::staticsAreFinal);
+        CHECK.test("one object is small", FaceTest::oneObjectIsSmall);
         CHECK.end();
     }
 
@@ -121,7 +121,7 @@ public final class FaceTest {
         }
     }
 
-    private static void oneObjectIsSmall() throws ReflectiveOperationException {
+    private static void oneObjectIsSmall() {
         OrderBench bench = new OrderBench();
         int atFirst = held(bench, Collections.newSetFromMap(new IdentityHashMap<>()));
         CHECK.due("a new object holds at most " + ROOM_OF_ONE + ": " + atFirst, atFirst <= ROOM_OF_ONE, true);
@@ -145,7 +145,7 @@ public final class FaceTest {
     }
 
     /** How many fields and elements an object and all that it holds have. */
-    private static int held(Object object, Set<Object> known) throws ReflectiveOperationException {
+    private static int held(Object object, Set<Object> known) {
         if (object == null || !known.add(object)) {
             return 0;
         }
@@ -161,11 +161,19 @@ public final class FaceTest {
         }
         for (Field field : object.getClass().getDeclaredFields()) {
             if (!Modifier.isStatic(field.getModifiers())) {
-                field.setAccessible(true);
                 total++;
-                total += field.getType().isPrimitive() ? 0 : held(field.get(object), known);
+                total += field.getType().isPrimitive() ? 0 : held(valueOf(field, object), known);
             }
         }
         return total;
+    }
+
+    private static Object valueOf(Field field, Object object) {
+        try {
+            field.setAccessible(true);
+            return field.get(object);
+        } catch (IllegalAccessException hidden) {
+            throw new IllegalStateException(hidden);
+        }
     }
 }

@@ -9,12 +9,13 @@ public final class ModelRunsTest {
     };
 
     private long seed;
-    private OrderBench bench;
+    private Bench bench;
     private Model model;
 
     public static void main(String[] args) {
         for (int run = 0; run < RUNS; run++) {
-            new ModelRunsTest().run(run);
+            int seed = run;
+            CHECK.test("1 to 22, run " + run, () -> new ModelRunsTest().run(seed));
         }
         CHECK.end();
     }
@@ -26,16 +27,16 @@ public final class ModelRunsTest {
 
     private void run(int run) {
         seed = run * 977L + 5;
-        bench = new OrderBench();
+        bench = new Bench();
         model = new Model();
         int most = run % 20 == 0 ? 1024 : run % 5 == 0 ? 90 : 12;
         // Each step makes at most five calls, so that an object is never used for more than 512.
         for (int call = 0; call < CALLS; call++) {
             int row = row();
-            step("run " + run + ", call " + call, row, most);
+            step("step " + call, row, most);
         }
         for (int row = 0; row < 4; row++) {
-            CHECK.due("run " + run + ", last mark(" + row + ")", bench.mark(row), model.mark(row));
+            CHECK.due("last mark(" + row + ")", bench.mark(row), model.mark(row));
         }
     }
 
