@@ -132,7 +132,7 @@ public final class OrderBench {
                 Heap.arrange(line, judge, 0, line.count);
                 break;
             case BY_PARTING:
-                Parting.arrange(line, judge, 2 * doublings(line.count));
+                Parting.arrange(line, judge, 0, line.count, 2 * doublings(line.count));
                 break;
             case BY_GAPS:
                 Insertion.arrangeOverGaps(line, judge);
@@ -638,11 +638,7 @@ public final class OrderBench {
     private static final class Parting {
         private static final int FEW = 16;
 
-        static void arrange(Row row, Judge judge, int depth) {
-            arrangePart(row, judge, 0, row.count, depth);
-        }
-
-        private static void arrangePart(Row row, Judge judge, int from, int to, int depthLeft) {
+        private static void arrange(Row row, Judge judge, int from, int to, int depthLeft) {
             if (to - from <= FEW) {
                 Insertion.arrange(row, judge, from, from, to);
             } else if (depthLeft <= 0) {
@@ -650,8 +646,8 @@ public final class OrderBench {
             } else {
                 row.change(from, middleOfThree(row, judge, from, from + (to - from) / 2, to - 1));
                 int border = part(row, judge, from, to);
-                arrangePart(row, judge, from, border, depthLeft - 1);
-                arrangePart(row, judge, border + 1, to, depthLeft - 1);
+                arrange(row, judge, from, border, depthLeft - 1);
+                arrange(row, judge, border + 1, to, depthLeft - 1);
             }
         }
 

@@ -217,6 +217,17 @@ public final class EdgeSortTest {
                 bench.number(0);
                 due("mark of keys", bench.mark(0), -5574989896218795001L);
             });
+            CHECK.test("11 sort: way " + way + ", the last entry of a full row comes first", () -> {
+                Bench bench = new Bench();
+                bench.fill(0, ROOM, 0, 1, 1);
+                bench.cut(0, ROOM - 1);
+                bench.add(0, 0, -5);
+                bench.sort(0, by, 0);
+                due("the first entry", bench.key(0, 0) + ":" + bench.tag(0, 0), "0:-5");
+                due("the last entry", bench.key(0, ROOM - 1) + ":" + bench.tag(0, ROOM - 1), "1023:1022");
+                bench.number(0);
+                due("mark of keys", bench.mark(0), -5574989896218795001L);
+            });
             CHECK.test("11 sort: way " + way + ", other rows stay", () -> {
                 Bench bench = Check.laidBench();
                 bench.sort(1, by, 0);

@@ -102,6 +102,12 @@ public final class EdgeTellTest {
             bench.fill(0, ROOM - 1, 1, 1, 1);
             CHECK.due("runs", bench.runs(0, 4), ROOM / 2);
         });
+        CHECK.test("14 runs: a last entry alone in a full row", () -> {
+            Bench bench = new Bench();
+            bench.fill(0, ROOM, 0, 0, 1);
+            bench.swap(0, 0, ROOM - 1);
+            CHECK.due("a fall, a rise, and the last one", bench.runs(0, 0), 3);
+        });
         refusals("14 runs", runs);
         refusalsOfEmptyRows("14 runs", runs);
     }
