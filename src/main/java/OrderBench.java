@@ -9,6 +9,7 @@ public final class OrderBench {
 
     private static final int ROWS = 4;
     private static final int ROOM = 1024;
+    private static final long SIGN = 1L << 63;
 
     private static final int LESSER = 0;
     private static final int GREATER = 1;
@@ -534,8 +535,8 @@ public final class OrderBench {
                     y = a;
                     break;
                 case WITHOUT_SIGN:
-                    x = a ^ Long.MIN_VALUE;
-                    y = b ^ Long.MIN_VALUE;
+                    x = a ^ SIGN;
+                    y = b ^ SIGN;
                     break;
                 case FEWER_BITS:
                     x = Long.bitCount(a);
@@ -818,7 +819,8 @@ public final class OrderBench {
             int high = middle;
             int lowWins = 0;
             int highWins = 0;
-            while (low < n && high < to) {
+            // Each turn puts one entry or more where they go, so there are no more turns than entries.
+            for (int turn = from; turn < to && low < n && high < to; turn++) {
                 int place = from + low + high - middle;
                 if (judge.before(row, high, spare, low)) {
                     int end = high + 1;
@@ -865,9 +867,9 @@ public final class OrderBench {
         private static long turnedBits(int order) {
             switch (order) {
                 case LESSER:
-                    return Long.MIN_VALUE;
+                    return SIGN;
                 case GREATER:
-                    return Long.MAX_VALUE;
+                    return ~SIGN;
                 default:
                     return 0;
             }

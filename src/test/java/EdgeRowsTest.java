@@ -43,6 +43,17 @@ public final class EdgeRowsTest {
             due("rows", Check.readAll(new Bench()), " /  /  /  / true");
             due("a row of the other one", used.size(3), ROOM);
         });
+        CHECK.test("1 new object: two of them, used by turns, have nothing in common", () -> {
+            Bench one = Check.benchOf(3, 1, 2);
+            Bench other = Check.benchOf(9, 8, 7, 6);
+            due("inversions of one", one.inversions(0, 0), 2);
+            due("inversions of the other", other.inversions(0, 0), 6);
+            one.sort(0, 5, 0);
+            due("the other", Check.readAll(other), "9:0 8:1 7:2 6:3 /  /  /  / true");
+            other.front(0, 0, 1);
+            due("one", Check.readAll(one), "1:1 2:2 3:0 /  /  /  / true");
+            due("the other at last", Check.readAll(other), "6:3 9:0 8:1 7:2 /  /  /  / true");
+        });
         CHECK.test("1 new object: it serves 512 calls", () -> {
             Bench bench = new Bench();
             for (int call = 1; call <= Bench.MOST_CALLS; call++) {
@@ -300,6 +311,13 @@ public final class EdgeRowsTest {
             due("the first one", bench.key(0, 0) + ":" + bench.tag(0, 0), "2046:1023");
             due("the last one", bench.key(0, ROOM - 1) + ":" + bench.tag(0, ROOM - 1), "0:0");
         });
+        CHECK.test("5 swap: other rows stay", () -> {
+            Bench bench = Check.laidBench();
+            bench.swap(1, 1, 2);
+            due("row 1", Check.read(bench, 1), "4:8 9:1 -2:8 0:3");
+            bench.swap(1, 2, 1);
+            due("all rows, changed back", Check.readAll(bench), Check.readAll(Check.laidBench()));
+        });
         for (int i : new int[] {-1, 4, LEAST_INT, MOST_INT}) {
             CHECK.refused("5 swap: the first is " + i + " of 4", Check.PLACE, bench -> bench.swap(0, i, 0));
             CHECK.refused("5 swap: the second is " + i + " of 4", Check.PLACE, bench -> bench.swap(0, 0, i));
@@ -330,6 +348,15 @@ public final class EdgeRowsTest {
             due("the last tag", bench.tag(1, ROOM - 1), ROOM - 1);
             due("mark", bench.mark(1), -5574989896218795001L);
         });
+        CHECK.test("6 number: keys and other rows stay", () -> {
+            Bench bench = Check.laidBench();
+            bench.number(1);
+            due("row 1", Check.read(bench, 1), "4:0 -2:1 9:2 0:3");
+            bench.cut(1, 0);
+            Bench other = Check.laidBench();
+            other.cut(1, 0);
+            due("the others", Check.readAll(bench), Check.readAll(other));
+        });
         CHECK.refusesRows("6 number", (bench, row) -> bench.number(row));
     }
 
@@ -352,6 +379,13 @@ public final class EdgeRowsTest {
         copyDue("a full row to an empty one", 3, 2);
         copyDue("the first row to the last one", 0, 3);
         copyDue("the last row to the first one", 3, 0);
+        CHECK.test("7 copy: tags are taken as they are, and other rows stay", () -> {
+            Bench bench = Check.laidBench();
+            bench.copy(1, 2);
+            due("row 2", Check.read(bench, 2), "4:8 -2:8 9:1 0:3");
+            bench.cut(2, 0);
+            due("the others", Check.readAll(bench), Check.readAll(Check.laidBench()));
+        });
         CHECK.test("7 copy: the rows are two afterwards", () -> {
             Bench bench = Check.laidBench();
             bench.copy(0, 2);
@@ -367,6 +401,17 @@ public final class EdgeRowsTest {
     }
 
     private static void reads() {
+        CHECK.test("8 size, 9 key, 10 tag, 22 mark: what is read stays", () -> {
+            Bench bench = Check.laidBench();
+            for (int row = 0; row < 4; row++) {
+                bench.mark(row);
+                if (bench.size(row) > 0) {
+                    bench.key(row, 0);
+                    bench.tag(row, 0);
+                }
+            }
+            due("rows", Check.readAll(bench), Check.readAll(Check.laidBench()));
+        });
         CHECK.test("8 size: an empty row", () -> due("size", Check.laidBench().size(2), 0));
         CHECK.test("8 size: a full row", () -> due("size", Check.laidBench().size(3), ROOM));
         CHECK.refusesRows("8 size", (bench, row) -> bench.size(row));
